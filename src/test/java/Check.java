@@ -64,8 +64,16 @@ final class Check {
         try {
             return Integer.toString(call.on(x));
         } catch (RuntimeException e) {
-            return "throws." + e.getClass().getSimpleName();
+            String by = isThrownByTheProject(e) ? "" : " of the machine or its library";
+            return "throws." + e.getClass().getSimpleName() + by;
         }
+    }
+
+    /** The library throws from classes of its own, and the machine sometimes without a trace. */
+    private static boolean isThrownByTheProject(RuntimeException e) {
+        StackTraceElement[] trace = e.getStackTrace();
+        return trace.length > 0 && !trace[0].getClassName().startsWith("java.")
+                && !trace[0].getClassName().startsWith("jdk.");
     }
 
     static void typeAll(Invoicebridge x, String text) {

@@ -57,7 +57,7 @@ public final class ModelTest {
         int i = wild(below(Math.max(1, m.sent.size())), 20);
         int c = wild(below(companies), 6);
         int d = wild(below(companies), 6);
-        int line = below(3);
+        int line = below(2) == 0 ? 0 : below(3);
         switch (below(26)) {
             case 0: case 1: {
                 int g = wild(below(2), 8);
@@ -96,7 +96,7 @@ public final class ModelTest {
                 return both("type " + sign, y -> y.type(sign), () -> m.type(sign), x);
             }
             case 14:
-                return below(6) == 0 ? both("clear", Invoicebridge::clear, m::clear, x) : both("fault", Invoicebridge::fault, m::fault, x);
+                return below(3) == 0 ? both("clear", Invoicebridge::clear, m::clear, x) : both("fault", Invoicebridge::fault, m::fault, x);
             case 15: case 16: {
                 int number = m.fault() == -1 ? Integer.parseInt(m.draft.substring(1)) : i;
                 int[] p = payment(m, number, c, d);

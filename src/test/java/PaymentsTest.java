@@ -26,6 +26,7 @@ public final class PaymentsTest {
         promise14PayByText();
         promise14PayByTextRefused();
         promise14PayByTextCannotBePaid();
+        promise14PayByTextTellsWhy();
         promise15PayBySum();
         promise15PayBySumRefused();
         promise16Pass();
@@ -144,6 +145,25 @@ public final class PaymentsTest {
             Check.typeAll(x, "R0");
         };
         check.refused("payByText what is paid", Check.STATE, paid, x -> x.payByText(1, 0, 1));
+    }
+
+    private static void promise14PayByTextTellsWhy() {
+        check.due("why, a fault", why("R", 1, 0, 1), "the draft has a fault");
+        check.due("why, no invoice", why("R1", 1, 0, 1), "there is no such invoice");
+        check.due("why, the payer", why("R0", 2, 0, 1), "the payer is not the buyer of the invoice");
+        check.due("why, the holder", why("R0", 1, 2, 1), "the paid company does not hold the invoice");
+        check.due("why, the cents", why("R0", 1, 0, 1191), "less is owed of the invoice");
+    }
+
+    private static String why(String text, int payer, int to, int cents) {
+        Invoicebridge x = Check.made(ACCEPTED);
+        Check.typeAll(x, text);
+        try {
+            x.payByText(payer, to, cents);
+            return "nothing";
+        } catch (IllegalStateException e) {
+            return e.getMessage();
+        }
     }
 
     private static void promise15PayBySum() {
