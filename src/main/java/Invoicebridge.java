@@ -208,7 +208,7 @@ public final class Invoicebridge {
             throw new IllegalStateException("the draft has a fault");
         }
         int number = numberOfDraft();
-        if (number >= invoices.size()) {
+        if (!isInvoice(number)) {
             throw new IllegalStateException("there is no such invoice");
         }
         Invoice named = invoices.get(number);
@@ -432,8 +432,12 @@ public final class Invoicebridge {
         }
     }
 
+    private boolean isInvoice(int number) {
+        return number >= 0 && number < invoices.size();
+    }
+
     private Invoice invoiceAt(int number) {
-        if (number < 0 || number >= invoices.size()) {
+        if (!isInvoice(number)) {
             throw new IndexOutOfBoundsException("there is no such invoice");
         }
         return invoices.get(number);

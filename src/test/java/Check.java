@@ -1,3 +1,5 @@
+import java.util.List;
+
 /** What the tests share: answers are compared, and a call that throws is shown to change nothing. */
 final class Check {
     static final Class<? extends RuntimeException> INDEX = IndexOutOfBoundsException.class;
@@ -11,6 +13,13 @@ final class Check {
     interface Steps {
         void on(Invoicebridge x);
     }
+
+    /** A call with the exception that it throws. */
+    record Refusal(String what, Class<? extends RuntimeException> want, Call call) { }
+
+    // So many refused calls leave room for the questions behind them within the 512 calls.
+    private static final int REFUSALS_TOGETHER = 100;
+    private static final int OTHER_GROUPS = 4;
 
     private final String test;
     private int wrong = 0;
@@ -34,16 +43,45 @@ final class Check {
         }
     }
 
+    void due(String what, Class<? extends RuntimeException> want, Call call, Invoicebridge x) {
+        due(what, answer(call, x), thrown(want));
+    }
+
     /** The call throws exactly the exception, and all that can be asked behind it is as without it. */
     void refused(String what, Class<? extends RuntimeException> want, Steps ahead, Call call) {
-        due(what, answer(call, made(ahead)), "throws." + want.getSimpleName());
+        due(what, want, call, made(ahead));
+        dueAsWithout(what, ahead, x -> answer(call, x));
+    }
+
+    /** Each of the calls throws exactly its exception, and all is behind them as without them. */
+    void allRefused(String what, Steps ahead, List<Refusal> refusals) {
+        due(what + " has refusals", refusals.isEmpty() ? 0 : 1, 1);
+        for (int from = 0; from < refusals.size(); from += REFUSALS_TOGETHER) {
+            List<Refusal> some = refusals.subList(from, Math.min(from + REFUSALS_TOGETHER, refusals.size()));
+            Invoicebridge asked = made(ahead);
+            for (Refusal one : some) {
+                due(what + ", " + one.what, one.want, one.call, asked);
+            }
+            dueAsWithout(what + ", refusals from " + from, ahead, x -> {
+                for (Refusal one : some) {
+                    answer(one.call, x);
+                }
+            });
+        }
+    }
+
+    private void dueAsWithout(String what, Steps ahead, Steps refused) {
         int invoices = countInvoices(made(ahead));
-        for (int group = 0; group < invoices + 3; group++) {
+        for (int group = 0; group < invoices + OTHER_GROUPS; group++) {
             Invoicebridge with = made(ahead);
             Invoicebridge without = made(ahead);
-            answer(call, with);
+            refused.on(with);
             due(what + " changes nothing, group " + group, tell(with, group, invoices), tell(without, group, invoices));
         }
+    }
+
+    private static String thrown(Class<? extends RuntimeException> want) {
+        return "throws." + want.getSimpleName();
     }
 
     /** Prints how it went; the exit code is 1 if an answer was wrong. */
@@ -108,6 +146,8 @@ final class Check {
             tellCompanies(x, text);
         } else if (group == invoices + 1) {
             tellDraft(x, text);
+        } else if (group == invoices + 2) {
+            tellTax(x, text);
         } else {
             tellWhatIsLeft(x, text);
         }
@@ -142,15 +182,23 @@ final class Check {
             add(text, "cashAnew", x, y -> y.cashAnew(c));
             add(text, "owedTo", x, y -> y.owedTo(c));
             add(text, "owes", x, y -> y.owes(c));
-            for (int month = 0; month <= 5; month++) {
-                int m = month;
-                add(text, "tax", x, y -> y.tax(c, m));
-                add(text, "carried", x, y -> y.carried(c, m));
-            }
         }
         for (int goods = 0; goods < 8; goods++) {
             int g = goods;
             add(text, "chain", x, y -> y.chain(g));
+        }
+    }
+
+    /** The first months, and the last ones up to the first that is not there. */
+    private static void tellTax(Invoicebridge x, StringBuilder text) {
+        int now = x.day() / 30;
+        for (int month = 0; month <= now + 1; month++) {
+            int m = month;
+            for (int company = 0; company < 6 && (month < 6 || month >= now - 1); company++) {
+                int c = company;
+                add(text, "tax", x, y -> y.tax(c, m));
+                add(text, "carried", x, y -> y.carried(c, m));
+            }
         }
     }
 
@@ -166,12 +214,20 @@ final class Check {
         add(text, "clear", x, Invoicebridge::clear);
     }
 
+    /** How many invoices, credits and days can still come; credits of a new invoice, if there can be one. */
     private static void tellWhatIsLeft(Invoicebridge x, StringBuilder text) {
-        add(text, "send", x, y -> y.send(0, 1, 0, 100, 0));
+        String sent = answer(y -> y.send(0, 1, 0, 100, 0), x);
+        text.append("send=").append(sent).append(' ');
+        int credited = sent.startsWith("throws") ? 0 : Integer.parseInt(sent);
         for (int i = 0; i < 25; i++) {
-            add(text, "credit", x, y -> y.credit(0, 0, 1));
+            add(text, "credit", x, y -> y.credit(credited, 0, 1));
         }
-        add(text, "pass", x, y -> y.pass(31));
+        for (int i = 0; i < 20; i++) {
+            add(text, "send", x, y -> y.send(0, 1, 0, 100, 0));
+        }
+        for (int i = 0; i < 34; i++) {
+            add(text, "pass", x, y -> y.pass(31));
+        }
     }
 
     private static void add(StringBuilder text, String name, Invoicebridge x, Call call) {
