@@ -12,6 +12,13 @@ final class Check {
 
     interface Steps {
         void on(Invoicebridge x);
+
+        default Steps then(Steps next) {
+            return x -> {
+                on(x);
+                next.on(x);
+            };
+        }
     }
 
     /** A call with the exception that it throws. */

@@ -32,6 +32,7 @@ public final class PaymentsEdgesTest {
         promise14NoSuchInvoice();
         promise14NotPaidSo();
         promise14EmptyThen();
+        promise14And15CashOfTheHolder();
         promise15Companies();
         promise15Cents();
         promise15SameCompanies();
@@ -218,6 +219,25 @@ public final class PaymentsEdgesTest {
         Invoicebridge refused = Check.made(NAMED);
         check.due("a refused one", Check.STATE, y -> y.payByText(1, 0, 1191), refused);
         check.due("leaves the draft", refused.payByText(1, 0, 1190), 0);
+    }
+
+    // "A payment is of some cents from a company to another one": not to the seller of a sold invoice
+    private static void promise14And15CashOfTheHolder() {
+        Invoicebridge x = Check.made(NAMED);
+        x.sell(0, 5, 100, true);
+        x.payByText(1, 5, 90);
+        dueCash(x, "by text", 1190, -90, -1190 + 90);
+        x.payBySum(1, 5, 1100);
+        dueCash(x, "by sum", 1190, -1190, 0);
+    }
+
+    private static void dueCash(Invoicebridge x, String how, int seller, int buyer, int holder) {
+        check.due("the seller's cash " + how, x.cash(0), seller);
+        check.due("the buyer's cash " + how, x.cash(1), buyer);
+        check.due("the holder's cash " + how, x.cash(5), holder);
+        check.due("the seller's cash anew " + how, x.cashAnew(0), seller);
+        check.due("the buyer's cash anew " + how, x.cashAnew(1), buyer);
+        check.due("the holder's cash anew " + how, x.cashAnew(5), holder);
     }
 
     // "if there is no such company, of either"
