@@ -37,6 +37,7 @@ public final class PaymentsEdgesTest {
         promise15Cents();
         promise15SameCompanies();
         promise15NoSuchInvoice();
+        promise15LeavesTheDraft();
         promise16Days();
         promise16Day999();
         promise16Months();
@@ -318,6 +319,14 @@ public final class PaymentsEdgesTest {
         check.due("payBySum of the first of 20", Check.made(last).payBySum(1, 0, 100), 0);
         check.due("payBySum of the last of 20", Check.made(last).payBySum(1, 0, 119), 19);
         check.refused("payBySum of no one of 20", Check.STATE, last, x -> x.payBySum(1, 0, 120));
+    }
+
+    // "Pays by sum.": the draft, which only a payment by text empties, is as it was
+    private static void promise15LeavesTheDraft() {
+        Invoicebridge x = Check.made(NAMED);
+        x.payBySum(1, 0, 1190);
+        check.due("its fault behind payBySum", x.fault(), Invoicebridge.NONE);
+        check.due("its length behind payBySum", x.clear(), 2);
     }
 
     // "if days is out of range": 1 to 60
